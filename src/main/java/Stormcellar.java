@@ -1155,7 +1155,9 @@ public final class Stormcellar {
 
         /** A cell that no way reaches is as far as CELLS, farther than any other one can be. */
         void measure(int goal, int without) {
-            Arrays.fill(distance, CELLS);
+            for (int cell = 0; cell < CELLS; cell++) {
+                distance[cell] = CELLS;
+            }
             if (goal == without || !isDry[goal]) {
                 return;
             }

@@ -5,6 +5,8 @@ public final class InquiryTest {
         withoutACut();
         firstOfSeveral();
         leftOutChoices();
+        withoutNews();
+        withoutAPump();
         sameHour();
         water();
         shares();
@@ -132,6 +134,63 @@ public final class InquiryTest {
         Check.isTrue("39: with what changes nothing", late.isConsistent());
     }
 
+    /** Without the cut no news comes, so the warning cannot be done, and the rain finds the group at home. */
+    private static void withoutNews() {
+        Stormcellar x = Coasts.pit(4, 0, 0, 0, 0, 0, 0);
+        for (int hour = 3; hour < 7; hour++) {
+            x.setHour(hour, 0, 9);
+        }
+        x.addDike(0, false, 99, 99);
+        x.addStation(63);
+        x.addSensor(1, 1, 1, 0);
+        x.addPump(40, 20, 0);
+        x.addGroup(40, 32, 0);
+        x.addShelter(40, 99);
+        x.cut(0);
+        x.pass(1);
+        x.open(0, true);
+        x.warn(0);
+        x.pass(3);
+        Check.isChar("27: safe", x.state(0), 's');
+        Check.isTrue("39: the first time", x.isConsistent());
+        x.pass(1);
+        Check.is("29: none", x.harm(), 0);
+        Check.isTrue("39: safe again and again", x.isConsistent());
+        Check.isTrue("39: safe again and again", x.isConsistent());
+        Check.is("33: 18 water, 9 above 9", x.harmWithout(0), 18);
+        Check.is("33: without the shelter", x.harmWithout(1), 18);
+        Check.is("33: without the warning", x.harmWithout(2), 18);
+        Check.is("28: asking changes nothing", x.inShelter(0), 32);
+    }
+
+    private static void withoutAPump() {
+        Stormcellar x = Coasts.pit(40, 40);
+        x.addStation(63);
+        x.addPump(1, 20, 0);
+        x.addPump(1, 20, 0);
+        x.addGroup(1, 16, 0);
+        x.turn(0, true);
+        x.turn(1, true);
+        x.pass(2);
+        Check.isTrue("39: pumped dry", x.isConsistent());
+        Check.is("33: the other pump is enough", x.harmWithout(0), 0);
+        Check.is("33: the first pump is enough", x.harmWithout(1), 0);
+        Stormcellar y = Coasts.pit(40, 40);
+        y.addStation(63);
+        y.addPump(1, 20, 0);
+        y.addGroup(1, 16, 0);
+        y.turn(0, true);
+        y.pass(1);
+        Check.isTrue("39: pumped dry", y.isConsistent());
+        Check.is("33: it was off at first", y.harmWithout(0), 1);
+        Stormcellar z = Coasts.pit(40, 40);
+        z.addDike(0, false, 99, 99);
+        z.addGroup(1, 16, 0);
+        z.cut(0);
+        z.pass(1);
+        Check.is("34: the very first choice", z.worst(), 0);
+    }
+
     private static void sameHour() {
         Stormcellar x = behindADike(99);
         x.pass(1);
@@ -176,6 +235,9 @@ public final class InquiryTest {
         Stormcellar y = Coasts.flat(9);
         y.pass(1);
         Check.isReal("37: all", y.wetShare(), 1.0f);
+        Stormcellar one = Coasts.pit(4);
+        one.pass(1);
+        Check.isReal("37: with 1 water", one.wetShare(), 1.0f / 63.0f);
         Check.isReal("38: all", y.meanWater(), 9.0);
         Stormcellar sea = new Stormcellar();
         for (int cell = 0; cell < 64; cell++) {

@@ -4,6 +4,7 @@ public final class PeopleTest {
         losses();
         statesAndNumbers();
         shortestWay();
+        longWay();
         dryWays();
         fourOntoACell();
         noWayBack();
@@ -68,6 +69,12 @@ public final class PeopleTest {
         Check.is("26: no water on sea", x.people(5), 99);
         allLost(25, 7, 16);
         allLost(24, 6, 15);
+        Stormcellar deep = Coasts.flat(9, 9, 9);
+        deep.addGroup(9, 1, 0);
+        deep.addGroup(9, 99, 0);
+        deep.pass(3);
+        Check.is("26: at 27, from 44", deep.people(1), 0);
+        Check.is("29: at most all", deep.harm(), 100);
     }
 
     private static void allLost(int water, int last, int due) {
@@ -132,6 +139,10 @@ public final class PeopleTest {
         Check.is("ways: its own neighbour", firstStep(27, 35), 35);
         Check.is("ways: no row's end", firstStep(7, 8), 6);
         Check.is("ways: no shelter", firstStep(27), 27);
+        Check.is("ways: up to the first cell", firstStep(8, 0), 0);
+        Check.is("ways: left to the edge", firstStep(25, 24), 24);
+        Check.is("ways: right to the edge", firstStep(30, 31), 31);
+        Check.is("ways: down to the last cell", firstStep(55, 63), 63);
 
         Stormcellar round = Coasts.flat(1);
         for (int cell : new int[] {12, 20, 28, 36}) {
@@ -145,6 +156,33 @@ public final class PeopleTest {
         }
         round.pass(1);
         Check.isChar("ways: safe in the end", round.state(0), 's');
+    }
+
+    /** Four rows of land that hang together at their ends alone. */
+    private static void longWay() {
+        Stormcellar x = Coasts.flat(1);
+        for (int row = 1; row < 8; row += 2) {
+            for (int column = 0; column < 8; column++) {
+                boolean isGap = row < 7 && column == (row % 4 == 1 ? 7 : 0);
+                x.setGround(8 * row + column, 0, !isGap);
+            }
+        }
+        Coasts.addNews(x);
+        x.setGround(63, 0, false);
+        x.addGroup(0, 9, 0);
+        x.addShelter(48, 9);
+        x.open(0, true);
+        x.pass(1);
+        x.warn(0);
+        x.pass(1);
+        Check.is("ways: a long one begins", x.cellOf(0), 1);
+        x.pass(32);
+        Check.is("ways: nearly there", x.cellOf(0), 49);
+        x.pass(1);
+        Check.is("ways: after 34 cells", x.cellOf(0), 48);
+        Check.isChar("ways: not safe yet", x.state(0), 'o');
+        x.pass(1);
+        Check.isChar("ways: safe", x.state(0), 's');
     }
 
     private static void dryWays() {
@@ -358,6 +396,19 @@ public final class PeopleTest {
         there.pass(1);
         Check.isChar("30: on the shelter's cell", there.reason(0), 'd');
         Check.is("28: those who are left", there.inShelter(0), 30);
+        Stormcellar none = Coasts.pit(0, 0, 80);
+        none.setHour(0, 0, 1);
+        Coasts.addNews(none);
+        none.addGroup(1, 1, 0);
+        none.addShelter(3, 9);
+        none.pass(1);
+        none.warn(0);
+        none.pass(1);
+        none.open(0, true);
+        none.pass(3);
+        Check.isChar("27: nobody is left", none.state(0), 'l');
+        Check.is("25: without people left, nothing more is done", none.cellOf(0), 1);
+        Check.is("28: nobody comes", none.inShelter(0), 0);
         Stormcellar five = inThePit(5, 3, 500);
         five.open(0, true);
         five.pass(1);

@@ -104,6 +104,11 @@ public final class StormTest {
                 Check.is("36: nothing is gone", x.gone(), 0);
             }
         }
+        Stormcellar first = Coasts.basin(new int[] {0, 1}, new int[] {10, 0});
+        first.setHour(0, 0, 9);
+        first.pass(1);
+        Check.is("flows: from the first cell", first.water(0), 7);
+        Check.is("flows: to its neighbour", first.water(1), 11);
         Stormcellar two = Coasts.basin(new int[] {1, 2}, new int[] {10, 0});
         two.setHour(0, 0, 8);
         int[] high = {6, 5, 4, 4};
@@ -199,6 +204,28 @@ public final class StormTest {
         x.pass(1);
         Check.is("flows: then", x.water(1), 1);
 
+        Stormcellar apart = Coasts.basin(new int[] {10, 18, 19, 12, 34, 42},
+                new int[] {0, 6, 13, 40, 0, 6});
+        apart.addDike(34, true, 60, 99);
+        apart.addDike(10, true, 60, 11);
+        apart.addDike(18, false, 60, 13);
+        apart.addDike(10, false, 60, 99);
+        apart.addDike(11, false, 60, 40);
+        apart.pass(3);
+        Check.is("21: the cells beside it do not count", apart.wear(0), 0);
+        Check.is("21: pressed from below", apart.wear(1), 3);
+        Check.is("21: pressed from the right", apart.wear(2), 3);
+        Check.is("21: by as much as the high ground", apart.wear(3), 3);
+        Check.is("21: not by half", apart.wear(4), 0);
+        Stormcellar one = Coasts.pit(24, 24, 24);
+        one.addDike(0, false, 20, 3);
+        one.pass(3);
+        Check.isChar("19: a flow of 1 is a flow", one.dike(0), 'o');
+        Stormcellar strong = Coasts.pit(24);
+        strong.addDike(0, false, 20, 99);
+        strong.pass(1);
+        Check.is("21: by a flow of 1", strong.wear(0), 1);
+
         Stormcellar half = Coasts.pit(5, 6);
         half.addDike(0, false, 20, 11);
         half.pass(1);
@@ -290,6 +317,21 @@ public final class StormTest {
         Check.is("6: its rate", x.water(20), 2);
         Check.is("36: by pumps", x.gone(), 4);
         Check.is("35: by rain", x.come(), 192);
+        Stormcellar two = Coasts.pit(40);
+        two.setHour(0, 40, 2);
+        two.addStation(1);
+        two.addStation(63);
+        two.addPump(20, 1, 0);
+        two.addPump(21, 1, 1);
+        two.addSensor(20, 1, 1, 0);
+        two.addSensor(21, 1, 1, 1);
+        two.turn(0, true);
+        two.turn(1, true);
+        two.pass(1);
+        Check.is("6: its station has no power", two.water(20), 2);
+        Check.is("6: its station has power", two.water(21), 1);
+        Check.noElement("7: its station has no power", () -> two.newsAt(0));
+        Check.is("7: its station has power", two.newsAt(1), 1);
         Stormcellar y = Coasts.flat(3);
         y.setGround(0, 0, true);
         y.setHour(0, 3, 3);
