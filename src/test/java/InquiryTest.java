@@ -1,4 +1,4 @@
-/** Promises 31 to 39: the storm run again without each choice, and the sums of the water. */
+/** Promises 31 to 39: the storm run again without each choice, and the sums of the water; InquiryEdgeTest has the edges. */
 public final class InquiryTest {
     public static void main(String[] args) {
         withoutARescue();
@@ -30,8 +30,6 @@ public final class InquiryTest {
         Check.is("33: without the shelter", x.harmWithout(0), 10);
         Check.is("33: without the warning", x.harmWithout(1), 10);
         Check.noElement("34: all were good", () -> x.worst());
-        Check.noCell("33: choice -1", () -> x.harmWithout(-1));
-        Check.noCell("33: choice 2", () -> x.harmWithout(2));
         Check.is("29: asking changes nothing", x.harm(), 0);
         Check.isChar("27: asking changes nothing", x.state(0), 's');
         Check.is("16: asking changes nothing", x.hour(), 5);

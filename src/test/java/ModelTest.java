@@ -15,6 +15,7 @@ public final class ModelTest {
     private final StringBuilder told = new StringBuilder();
     private static final TreeMap<String, Integer> SEEN = new TreeMap<>();
     private int calls;
+    private int flood;
 
     private ModelTest(long seed) {
         random = new Random(seed);
@@ -51,10 +52,11 @@ public final class ModelTest {
         return upTo(bound) == 0;
     }
 
-    /** Mostly a number of the range, now and then one just beyond it. */
+    /** Mostly a number of the range, now and then one just beyond it, or the farthest one. */
     private int from(int least, int most) {
         if (oneIn(60)) {
-            return oneIn(2) ? least - 1 : most + 1;
+            int beyond = oneIn(5) ? Integer.MIN_VALUE : least - 1;
+            return oneIn(2) ? beyond : oneIn(5) ? Integer.MAX_VALUE : most + 1;
         }
         return most < least ? least : least + upTo(most - least + 1);
     }
@@ -144,8 +146,12 @@ public final class ModelTest {
     private void buildCoast() {
         int corner = upTo(4);
         boolean isCalm = !oneIn(3);
+        int meeting = near(corner);
         tellGround(isCalm, corner);
         tellHours(isCalm);
+        if (isCalm && oneIn(3)) {
+            digPit(meeting);
+        }
         for (int i = upTo(18); i >= 0; i--) {
             call("addDike", oneIn(3) ? from(0, 63) : near(corner), flag(),
                     from(0, oneIn(2) ? 99 : 25), from(2, oneIn(2) ? 99 : 20));
@@ -161,7 +167,6 @@ public final class ModelTest {
             call("addSensor", from(0, 63), from(1, oneIn(4) ? 20 : 1), from(1, oneIn(4) ? 9 : 2),
                     from(0, stations - 1));
         }
-        int meeting = near(corner);
         for (int i = 2 + upTo(6); i >= 0; i--) {
             call("addGroup", oneIn(3) ? near(corner) : meeting, from(1, 99), from(0, oneIn(2) ? 5 : 1));
         }
@@ -181,6 +186,21 @@ public final class ModelTest {
                 call("setGround", i, from(0, height), oneIn(7) ? 1 : 0);
             }
         }
+    }
+
+    /** Where the groups meet, beside a sea: it is flooded when the shelters open, and the ways to them are dry. */
+    private void digPit(int meeting) {
+        flood = 3 + upTo(4);
+        for (int hour = 1; hour <= flood; hour++) {
+            call("setHour", hour, hour == flood ? from(40, 60) : 0, 0);
+        }
+        for (int i = 0; i < 64; i++) {
+            if (i != meeting && oneIn(2)) {
+                call("setGround", i, 40, 0);
+            }
+        }
+        call("setGround", meeting, 0, 0);
+        call("setGround", meeting % 8 < 7 ? meeting + 1 : meeting - 1, 0, 1);
     }
 
     private void tellHours(boolean isCalm) {
@@ -206,7 +226,7 @@ public final class ModelTest {
         } else if (kind < 5) {
             choose();
         } else if (kind < 8) {
-            call("pass", oneIn(40) ? from(1, 48) : from(1, oneIn(4) ? 4 : 1));
+            call("pass", oneIn(40) ? from(1, 48) : from(1, oneIn(4) && model.hour > flood ? 4 : 1));
         } else {
             ask(ASKED[upTo(ASKED.length)]);
         }
@@ -226,6 +246,14 @@ public final class ModelTest {
     }
 
     private void choose() {
+        if (model.hour < flood) {
+            call("warn", from(0, model.groups.size() - 1));
+            return;
+        }
+        if (model.hour == flood && flood > 0) {
+            call("open", from(0, model.shelters.size() - 1), 1);
+            return;
+        }
         switch (upTo(oneIn(3) ? 6 : 10)) {
             case 0: call("turn", from(0, model.pumps.size() - 1), oneIn(4) ? 0 : 1); break;
             case 1: call("raise", from(0, model.dikes.size() - 1), from(1, 10)); break;

@@ -1,4 +1,4 @@
-/** Promises 25 to 30: how groups are lost, and how they go to shelters. */
+/** Promises 25 to 30: how groups are lost, and how they go to shelters; PeopleEdgeTest has the edges. */
 public final class PeopleTest {
     public static void main(String[] args) {
         losses();
@@ -104,15 +104,6 @@ public final class PeopleTest {
         Check.is("28: in it", x.inShelter(0), 5);
         Check.is("26: safe people", x.people(0), 5);
         Check.is("25: its cell", x.cellOf(0), 11);
-        for (int wrong = -1; wrong <= 2; wrong += 3) {
-            int group = wrong;
-            Check.noCell("25: group " + group, () -> x.cellOf(group));
-            Check.noCell("26: group " + group, () -> x.people(group));
-            Check.noCell("27: group " + group, () -> x.state(group));
-            Check.noCell("30: group " + group, () -> x.reason(group));
-        }
-        Check.noCell("28: shelter -1", () -> x.inShelter(-1));
-        Check.noCell("28: shelter 1", () -> x.inShelter(1));
         Check.noElement("30: nobody was lost", () -> x.reason(0));
         Check.is("29: none", x.harm(), 0);
     }

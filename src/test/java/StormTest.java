@@ -1,36 +1,16 @@
-/** Promises 15 to 24: how an hour is gone through. */
+/** Promises 15 to 24: how an hour is gone through; StormEdgeTest has the edges. */
 public final class StormTest {
     public static void main(String[] args) {
-        pass();
         hourWaterAndLevel();
         flowsFromAndToTheSea();
         flowsOnLand();
         flowsOverHighSea();
         dikesThatOverflow();
         dikesThatArePressed();
-        dikesRefuse();
         power();
         pumps();
         sensors();
         Check.end();
-    }
-
-    private static void pass() {
-        Stormcellar x = new Stormcellar();
-        Check.noValue("15: 0 hours", () -> x.pass(0));
-        Check.noValue("15: -1 hours", () -> x.pass(-1));
-        Check.noValue("15: 49 hours", () -> x.pass(49));
-        Check.noValue("15: most hours", () -> x.pass(Integer.MAX_VALUE));
-        Check.is("15: 1 hour", x.pass(1), 1);
-        Check.noTime("15: above 48", () -> x.pass(48));
-        Check.is("16: a refused pass changes nothing", x.hour(), 1);
-        Check.is("15: to 47", x.pass(46), 47);
-        Check.noTime("15: above 48 by 1", () -> x.pass(2));
-        Check.noValue("15: the number comes first", () -> x.pass(49));
-        Check.is("15: to 48", x.pass(1), 48);
-        Check.noTime("15: no hour is left", () -> x.pass(1));
-        Check.is("16: the end", x.hour(), 48);
-        Check.is("15: all at once", new Stormcellar().pass(48), 48);
     }
 
     private static void hourWaterAndLevel() {
@@ -57,10 +37,6 @@ public final class StormTest {
         Check.is("18: sea of hour 47", x.level(0), 33);
         x.pass(1);
         Check.is("18: sea behind that", x.level(0), 33);
-        Check.noCell("17: cell -1", () -> x.water(-1));
-        Check.noCell("17: cell 64", () -> x.water(64));
-        Check.noCell("18: cell -1", () -> x.level(-1));
-        Check.noCell("18: cell 64", () -> x.level(64));
         Check.is("18: last cell", x.level(63), x.water(63));
     }
 
@@ -252,18 +228,6 @@ public final class StormTest {
         Check.is("flows: from the other side", before.water(1), 3);
     }
 
-    private static void dikesRefuse() {
-        Stormcellar x = Coasts.pit(40);
-        x.addDike(0, false, 20, 10);
-        Check.noCell("19: dike -1", () -> x.dike(-1));
-        Check.noCell("19: dike 1", () -> x.dike(1));
-        Check.noCell("20: dike -1", () -> x.brokenAt(-1));
-        Check.noCell("20: dike 1", () -> x.brokenAt(1));
-        Check.noCell("21: dike -1", () -> x.wear(-1));
-        Check.noCell("21: dike 1", () -> x.wear(1));
-        Check.noElement("20: not broken", () -> x.brokenAt(0));
-    }
-
     private static void power() {
         Stormcellar x = Coasts.flat(3, 1);
         x.addStation(9);
@@ -271,8 +235,6 @@ public final class StormTest {
         Check.isTrue("22: at 3", x.hasPower(0));
         x.pass(1);
         Check.isFalse("22: at 4", x.hasPower(0));
-        Check.noCell("22: station -1", () -> x.hasPower(-1));
-        Check.noCell("22: station 1", () -> x.hasPower(1));
 
         Stormcellar y = Coasts.pit(40);
         y.addStation(1);
@@ -363,8 +325,6 @@ public final class StormTest {
         Check.isTrue("24: at the beginning of hour 4", x.isKnown());
         x.pass(1);
         Check.isTrue("24: from then on", x.isKnown());
-        Check.noCell("23: sensor -1", () -> x.newsAt(-1));
-        Check.noCell("23: sensor 3", () -> x.newsAt(3));
 
         Stormcellar dark = Coasts.flat(4);
         dark.addStation(63);
