@@ -482,7 +482,7 @@ public final class Stormcellar {
         Storm(Coast coast) {
             flood = new Flood(coast);
             works = new Works();
-            crowd = new Crowd(coast, flood.water);
+            crowd = new Crowd(coast);
             hour = 0;
         }
 
@@ -501,9 +501,10 @@ public final class Stormcellar {
             flood.gone += works.pumpAway(flood.water);
             works.notice(flood.water, hour);
             boolean isKnown = works.hasNewsBy(hour);
-            crowd.beginHour();
+            crowd.beginHour(flood.water);
             for (int i = 0; i < crowd.groupCount; i++) {
-                crowd.act(crowd.groups[i], hour, isKnown);
+                Group group = crowd.groups[i];
+                crowd.act(group, flood.water[group.cell], hour, isKnown);
             }
             hour++;
         }
@@ -952,7 +953,6 @@ public final class Stormcellar {
 
     /** The groups, the shelters that they go to, and how many people were lost. */
     private static final class Crowd {
-        final int[] water;
         final Ways ways;
         final Group[] groups = new Group[MAX_GROUPS];
         int groupCount;
@@ -961,8 +961,7 @@ public final class Stormcellar {
         final int[] goneOnto = new int[CELLS];
         int lost;
 
-        Crowd(Coast coast, int[] itsWater) {
-            water = itsWater;
+        Crowd(Coast coast) {
             ways = new Ways(coast.isSea);
             for (int i = 0; i < MAX_GROUPS; i++) {
                 groups[i] = new Group();
@@ -996,13 +995,12 @@ public final class Stormcellar {
             lost = 0;
         }
 
-        void beginHour() {
+        void beginHour(int[] water) {
             Arrays.fill(goneOnto, 0);
             ways.lookWhereDry(water);
         }
 
-        void act(Group group, int hour, boolean isKnown) {
-            int waterHere = water[group.cell];
+        void act(Group group, int waterHere, int hour, boolean isKnown) {
             if (group.isAtRisk() && waterHere >= 10) {
                 if (group.reason == NOBODY_LOST) {
                     group.reason = reasonNow(group, isKnown);

@@ -74,6 +74,14 @@ public final class FaceTest {
         Check.end();
     }
 
+    static TreeSet<String> names() {
+        TreeSet<String> names = new TreeSet<>();
+        for (String line : FACE) {
+            names.add(line.substring(line.indexOf(' ') + 1, line.indexOf('(')));
+        }
+        return names;
+    }
+
     private static void methods(Class<?> face) {
         TreeSet<String> due = new TreeSet<>(java.util.List.of(FACE));
         TreeSet<String> got = new TreeSet<>();
