@@ -91,7 +91,7 @@ public final class LanguageTest extends TreePathScanner<Void, Void> {
     public static void main(String[] args) throws IOException {
         JavaCompiler compiler = ToolProvider.getSystemJavaCompiler();
         try (StandardJavaFileManager files = compiler.getStandardFileManager(null, null, null)) {
-            JavacTask task = (JavacTask) compiler.getTask(null, files, null, List.of("--release", "17", "-proc:none"),
+            JavacTask task = (JavacTask) compiler.getTask(null, files, null, List.of("-proc:none"),
                     null, files.getJavaFileObjects(new File(PROGRAM.toString())));
             CompilationUnitTree file = task.parse().iterator().next();
             task.analyze();
